@@ -64,6 +64,7 @@ public final class DreamBook {
     private static final int MOST_DREAMS = 8;
     private static final int MOST_NAMES = 37;
     private static final int LONGEST_DREAM = 6;
+    private static final int MOST_MEANS = 99;
     private static final int LONGEST_ROW = 8;
     private static final int MOST_MARKS = 3;
     private static final int MOST_SUM = 9999;
@@ -412,7 +413,7 @@ public final class DreamBook {
         if (bad != 0) {
             return no(bad);
         }
-        return yes(reader.readThings(reader.row, n, person, season));
+        return yes(reader.sign(person, season) * reader.addWorths(reader.row, n, reader.openFor(person, season)));
     }
 
     public int ruleAt(int dream, int k, int person, int season) {
@@ -841,14 +842,15 @@ public final class DreamBook {
         int faultKind = NONE;
         int faultPlace = NONE;
         private final long[] keywords = new long[KEYWORD_COUNT];
-        private int limit;
-        private int place;
-        private int behind;
-        private int kind;
+        // The tokens of the text, the last one its end; token is the one that is looked at.
+        private final int[] kinds = new int[MOST_BYTES + 1];
+        private final int[] places = new int[MOST_BYTES + 1];
         /** A number's value, a sign's byte, the number of a keyword. */
-        private int value;
-        /** The letters of a word, packed, so that two words are compared as numbers; NONE if it is too long for a name. */
-        private long letters;
+        private final int[] values = new int[MOST_BYTES + 1];
+        /** The letters of a word, packed, so that words are compared as numbers; NONE if it is too long for a name. */
+        private final long[] letters = new long[MOST_BYTES + 1];
+        private int token;
+        private int limit;
 
         Scanner() {
             int keyword = 0;
@@ -878,34 +880,36 @@ public final class DreamBook {
 
         void start(int n) {
             limit = Math.min(n, MOST_BYTES);
-            behind = 0;
+            token = 0;
             faultKind = 0;
             faultPlace = NONE;
-            advance();
+            int count = 0;
+            int behind = 0;
+            for (int place = 0; place < limit; place++) {
+                if (place >= behind && !isBlank(tape[place])) {
+                    behind = scanToken(count, place);
+                    count++;
+                }
+            }
+            kinds[count] = TEXT_END;
+            places[count] = limit;
         }
 
-        void advance() {
-            int i = behind;
-            while (i < limit && isBlank(tape[i])) {
-                i++;
+        /** The token that begins at a place becomes the one of a number: the place behind it. */
+        private int scanToken(int number, int place) {
+            places[number] = place;
+            if (isLetter(tape[place])) {
+                return scanWord(number, place);
             }
-            place = i;
-            value = NONE;
-            letters = NONE;
-            if (i >= limit) {
-                kind = TEXT_END;
-            } else if (isLetter(tape[i])) {
-                scanWord();
-            } else if (isDigit(tape[i])) {
-                scanNumber();
-            } else {
-                kind = isSign(tape[i]) ? SIGN : NO_TOKEN;
-                value = tape[i];
-                behind = i + 1;
+            if (isDigit(tape[place])) {
+                return scanNumber(number, place);
             }
+            kinds[number] = isSign(tape[place]) ? SIGN : NO_TOKEN;
+            values[number] = tape[place];
+            return place + 1;
         }
 
-        private void scanWord() {
+        private int scanWord(int number, int place) {
             long packed = 0;
             int i = place;
             while (i < limit && isLetter(tape[i])) {
@@ -914,15 +918,14 @@ public final class DreamBook {
                 }
                 i++;
             }
-            kind = WORD;
-            behind = i;
-            if (i - place <= LONGEST_NAME) {
-                letters = packed;
-                value = keywordOf(packed);
-            }
+            boolean isShort = i - place <= LONGEST_NAME;
+            kinds[number] = WORD;
+            letters[number] = isShort ? packed : NONE;
+            values[number] = isShort ? keywordOf(packed) : NONE;
+            return i;
         }
 
-        private void scanNumber() {
+        private int scanNumber(int number, int place) {
             int sum = 0;
             int i = place;
             while (i < limit && isDigit(tape[i])) {
@@ -931,9 +934,9 @@ public final class DreamBook {
                 }
                 i++;
             }
-            kind = i - place <= LONGEST_NUMBER ? NUMBER : NO_TOKEN;
-            behind = i;
-            value = sum;
+            kinds[number] = i - place <= LONGEST_NUMBER ? NUMBER : NO_TOKEN;
+            values[number] = sum;
+            return i;
         }
 
         private int keywordOf(long packed) {
@@ -946,22 +949,28 @@ public final class DreamBook {
         }
 
         boolean isAtEnd() {
-            return kind == TEXT_END;
+            return kinds[token] == TEXT_END;
+        }
+
+        void advance() {
+            if (kinds[token] != TEXT_END) {
+                token++;
+            }
         }
 
         /** The keyword that stands here, or NONE. */
         int keyword() {
-            return kind == WORD ? value : NONE;
+            return kinds[token] == WORD ? values[token] : NONE;
         }
 
         boolean isName() {
-            return kind == WORD && letters != NONE && value == NONE;
+            return kinds[token] == WORD && letters[token] != NONE && values[token] == NONE;
         }
 
         /** The token that stands here is faulty; what is no token at all is so ahead of any other fault. */
         boolean fail(int fault) {
-            faultKind = kind == NO_TOKEN ? 1 : fault;
-            faultPlace = place;
+            faultKind = kinds[token] == NO_TOKEN ? 1 : fault;
+            faultPlace = places[token];
             return false;
         }
 
@@ -978,69 +987,73 @@ public final class DreamBook {
         }
 
         boolean takeStop() {
-            if (kind != SIGN || value != ';') {
+            if (kinds[token] != SIGN || values[token] != ';') {
                 return fail(2);
             }
             advance();
             return true;
         }
 
-        /** Which of < = > stands here, as -1, 0, 1; else 2, with a fault. */
-        int takeCompare() {
-            if (kind != SIGN || value == ';') {
-                fail(2);
-                return 2;
+        /** Which of < = > stands here comes to a place of a row, as -1, 0, 1. */
+        boolean takeCompare(int[] row, int field) {
+            if (kinds[token] != SIGN || values[token] == ';') {
+                return fail(2);
             }
-            int compare = value - '=';
+            row[field] = values[token] - '=';
             advance();
-            return compare;
+            return true;
         }
 
-        int takeNumber(int least, int most) {
-            if (kind != NUMBER) {
-                fail(2);
-                return NONE;
+        boolean takeNumber(int least, int most, int[] row, int field) {
+            if (kinds[token] != NUMBER) {
+                return fail(2);
             }
-            if (!within(value, least, most)) {
-                fail(4);
-                return NONE;
+            if (!within(values[token], least, most)) {
+                return fail(4);
             }
-            int number = value;
+            row[field] = values[token];
             advance();
-            return number;
+            return true;
+        }
+
+        /** Likewise, below 0 if it is told as less. */
+        boolean takeSigned(int most, int[] row, int field) {
+            boolean below = takeIf(LESS);
+            if (!takeNumber(0, most, row, field)) {
+                return false;
+            }
+            row[field] = below ? -row[field] : row[field];
+            return true;
         }
 
         boolean takeNewName(Told among, int sort) {
             if (!isName()) {
                 return fail(2);
             }
-            if (among.isTaken(letters)) {
+            if (among.isTaken(letters[token])) {
                 return fail(3);
             }
-            among.addName(letters, sort);
+            among.addName(letters[token], sort);
             advance();
             return true;
         }
 
-        /** The number of what is named here, or NONE, with a fault. */
-        int seeName(Told among, int sort) {
-            if (!isName()) {
-                fail(2);
-                return NONE;
+        /** The number of what is named here comes to a place of a row. */
+        boolean takeName(Told among, int sort, int[] row, int field) {
+            if (!seesName(among, sort, row, field)) {
+                return false;
             }
-            int number = among.numberOf(letters, sort);
-            if (number == NONE) {
-                fail(3);
-            }
-            return number;
+            advance();
+            return true;
         }
 
-        int takeName(Told among, int sort) {
-            int number = seeName(among, sort);
-            if (number != NONE) {
-                advance();
+        /** Likewise, but the name stays to be taken. */
+        boolean seesName(Told among, int sort, int[] row, int field) {
+            if (!isName()) {
+                return fail(2);
             }
-            return number;
+            row[field] = among.numberOf(letters[token], sort);
+            return row[field] != NONE || fail(3);
         }
 
         private static long pack(long packed, int letter) {
@@ -1086,6 +1099,7 @@ public final class DreamBook {
         private final int[] nameSorts = new int[MOST_NAMES];
         private final int[] nameNumbers = new int[MOST_NAMES];
         private int nameCount;
+        private final int[] clashes = new int[MOST_RULES];
 
         void clear() {
             Arrays.fill(counts, 0);
@@ -1267,19 +1281,18 @@ public final class DreamBook {
         /** The least set of rules without which no two clash. */
         int leastCover() {
             int best = sets() - 1;
-            int[] clashes = new int[MOST_RULES];
             for (int r = 0; r < counts[RULE]; r++) {
                 clashes[r] = clashesOf(r);
             }
             for (int set = 0; set < sets(); set++) {
-                if (Integer.bitCount(set) < Integer.bitCount(best) && covers(set, clashes)) {
+                if (Integer.bitCount(set) < Integer.bitCount(best) && covers(set)) {
                     best = set;
                 }
             }
             return best;
         }
 
-        private boolean covers(int set, int[] clashes) {
+        private boolean covers(int set) {
             for (int r = 0; r < counts[RULE]; r++) {
                 if (!isIn(set, r) && (clashes[r] & ~set) != 0) {
                     return false;
@@ -1293,6 +1306,8 @@ public final class DreamBook {
     private static final class BookParser {
         final Told draft = new Told();
         private final Scanner scanner;
+        /** Takes the number of a thing that a dream has no room for. */
+        private final int[] surplus = new int[1];
 
         BookParser(Scanner scanner) {
             this.scanner = scanner;
@@ -1364,50 +1379,28 @@ public final class DreamBook {
         private boolean parseRule() {
             int[] rule = draft.rules[draft.counts[RULE]];
             return scanner.takeNewName(draft, RULE)
-                && scanner.take(OF) && parseThing(rule)
-                && scanner.take(MEANING) && parseMeans(rule)
+                && scanner.take(OF) && scanner.takeName(draft, THING, rule, OF_THING)
+                && scanner.take(MEANING) && scanner.takeSigned(MOST_MEANS, rule, MEANS)
                 && parseOption(rule, BY, NEXT_TO, THING)
                 && parseOption(rule, UNLESS, UNLESS_THERE, THING)
                 && parseOption(rule, FOR_PERSON, FOR, PERSON)
                 && parseOption(rule, IN_SEASON, IN, SEASON);
         }
 
-        private boolean parseThing(int[] rule) {
-            rule[OF_THING] = scanner.takeName(draft, THING);
-            return rule[OF_THING] != NONE;
-        }
-
-        private boolean parseMeans(int[] rule) {
-            boolean below = scanner.takeIf(LESS);
-            int number = scanner.takeNumber(0, 99);
-            rule[MEANS] = below ? -number : number;
-            return number != NONE;
-        }
-
         private boolean parseOption(int[] rule, int field, int keyword, int kind) {
             rule[field] = NONE;
-            if (!scanner.takeIf(keyword)) {
-                return true;
-            }
-            rule[field] = scanner.takeName(draft, kind);
-            return rule[field] != NONE;
+            return !scanner.takeIf(keyword) || scanner.takeName(draft, kind, rule, field);
         }
 
         private boolean parseNote() {
-            int striker = scanner.takeName(draft, RULE);
-            if (striker == NONE || !scanner.take(STRIKES)) {
+            int[] note = draft.notes[draft.counts[NOTE]];
+            if (!scanner.takeName(draft, RULE, note, 0) || !scanner.take(STRIKES)
+                || !scanner.seesName(draft, RULE, note, 1)) {
                 return false;
             }
-            int struck = scanner.seeName(draft, RULE);
-            if (struck == NONE) {
-                return false;
-            }
-            if (draft.hasNote(striker, struck)) {
+            if (draft.hasNote(note[0], note[1])) {
                 return scanner.fail(5);
             }
-            int[] note = draft.notes[draft.counts[NOTE]];
-            note[0] = striker;
-            note[1] = struck;
             draft.counts[NOTE]++;
             scanner.advance();
             return true;
@@ -1420,31 +1413,22 @@ public final class DreamBook {
             }
             draft.costs[dream] = 0;
             draft.chances[dream] = 1;
-            if (scanner.takeIf(COSTS)) {
-                draft.costs[dream] = scanner.takeNumber(0, 99);
+            if (scanner.takeIf(COSTS) && !scanner.takeNumber(0, 99, draft.costs, dream)) {
+                return false;
             }
-            if (draft.costs[dream] != NONE && scanner.takeIf(CHANCE)) {
-                draft.chances[dream] = scanner.takeNumber(1, 99);
-            }
-            return draft.costs[dream] != NONE && draft.chances[dream] != NONE;
+            return !scanner.takeIf(CHANCE) || scanner.takeNumber(1, 99, draft.chances, dream);
         }
 
         private boolean parseThings(int dream) {
             int size = 0;
-            while (size == 0 || size <= LONGEST_DREAM && scanner.isName()) {
-                int thing = scanner.seeName(draft, THING);
-                if (thing == NONE) {
+            while (size == 0 || size < LONGEST_DREAM && scanner.isName()) {
+                if (!scanner.takeName(draft, THING, draft.dreams[dream], size)) {
                     return false;
                 }
-                if (size == LONGEST_DREAM) {
-                    return scanner.fail(6);
-                }
-                draft.dreams[dream][size] = thing;
                 size++;
-                scanner.advance();
             }
             draft.sizes[dream] = size;
-            return true;
+            return !scanner.isName() || scanner.seesName(draft, THING, surplus, 0) && scanner.fail(6);
         }
     }
 
@@ -1555,51 +1539,36 @@ public final class DreamBook {
         private boolean parseStep(int word, int[] row) {
             switch (word) {
                 case NIGHT:
-                    return parseName(row, Plan.WHICH, DREAM) && parseSleeper(row);
+                    return scanner.takeName(told, DREAM, row, Plan.WHICH) && parseSleeper(row);
                 case ANY:
                     return parseSleeper(row);
                 case STRIKE:
                 case PRINT:
-                    return parseName(row, Plan.WHICH, RULE);
+                    return scanner.takeName(told, RULE, row, Plan.WHICH);
                 case WHEN:
                     return parseTest(row);
                 case LOOP:
-                    row[Plan.NUMBER] = scanner.takeNumber(1, 99);
-                    return row[Plan.NUMBER] != NONE;
+                    return scanner.takeNumber(1, 99, row, Plan.NUMBER);
                 default:
                     return true;
             }
         }
 
-        private boolean parseName(int[] row, int field, int kind) {
-            row[field] = scanner.takeName(told, kind);
-            return row[field] != NONE;
-        }
-
         private boolean parseSleeper(int[] row) {
-            if (!scanner.take(FOR) || !parseName(row, Plan.FOR_WHOM, PERSON)) {
+            if (!scanner.take(FOR) || !scanner.takeName(told, PERSON, row, Plan.FOR_WHOM)) {
                 return false;
             }
             row[Plan.IN_WHICH] = NONE;
-            return !scanner.takeIf(IN) || parseName(row, Plan.IN_WHICH, SEASON);
+            return !scanner.takeIf(IN) || scanner.takeName(told, SEASON, row, Plan.IN_WHICH);
         }
 
         private boolean parseTest(int[] row) {
             if (scanner.takeIf(WORN)) {
                 row[Plan.FOR_WHOM] = NONE;
-                return parseName(row, Plan.WHICH, RULE);
+                return scanner.takeName(told, RULE, row, Plan.WHICH);
             }
-            if (!scanner.take(SUM) || !parseName(row, Plan.FOR_WHOM, PERSON)) {
-                return false;
-            }
-            row[Plan.TEST] = scanner.takeCompare();
-            if (row[Plan.TEST] == 2) {
-                return false;
-            }
-            boolean below = scanner.takeIf(LESS);
-            int number = scanner.takeNumber(0, MOST_SUM);
-            row[Plan.NUMBER] = below ? -number : number;
-            return number != NONE;
+            return scanner.take(SUM) && scanner.takeName(told, PERSON, row, Plan.FOR_WHOM)
+                && scanner.takeCompare(row, Plan.TEST) && scanner.takeSigned(MOST_SUM, row, Plan.NUMBER);
         }
     }
 
@@ -1652,7 +1621,11 @@ public final class DreamBook {
 
         int worth(int rule) {
             int means = told.rules[rule][MEANS];
-            return means > 0 ? Math.max(0, means - life.used[rule]) : Math.min(0, means + life.used[rule]);
+            int used = life.used[rule];
+            if (means > 0) {
+                return means > used ? means - used : 0;
+            }
+            return -means > used ? means + used : 0;
         }
 
         /** The rules in force that name no other person or season. */
@@ -1678,11 +1651,7 @@ public final class DreamBook {
         }
 
         int readDream(int dream, int person, int season) {
-            return readThings(told.dreams[dream], told.sizes[dream], person, season);
-        }
-
-        int readThings(int[] things, int n, int person, int season) {
-            return sign(person, season) * addWorths(things, n, openFor(person, season));
+            return sign(person, season) * addWorths(told.dreams[dream], told.sizes[dream], openFor(person, season));
         }
 
         /** What the first n things mean by the rules of a set, not turned. */
@@ -1705,11 +1674,11 @@ public final class DreamBook {
         private int firstFit(int thing, int open, int beside, int present) {
             int[] candidates = told.rulesOf[thing];
             for (int i = 0; i < told.rulesOfCount[thing]; i++) {
-                int[] rule = told.rules[candidates[i]];
-                if (isIn(open, candidates[i])
-                    && (rule[BY] == NONE || isIn(beside, rule[BY]))
-                    && (rule[UNLESS] == NONE || !isIn(present, rule[UNLESS]))) {
-                    return candidates[i];
+                int r = candidates[i];
+                if ((open >> r & 1) != 0
+                    && (told.rules[r][BY] == NONE || (beside >> told.rules[r][BY] & 1) != 0)
+                    && (told.rules[r][UNLESS] == NONE || (present >> told.rules[r][UNLESS] & 1) == 0)) {
+                    return r;
                 }
             }
             return NONE;
@@ -1954,7 +1923,7 @@ public final class DreamBook {
     /** Weeks of nights by chances, and the fraction that is told. */
     private static final class Odds {
         static final int LONGEST_WEEK = 6;
-        static final int MOST_SPREAD = LONGEST_WEEK * 2 * LONGEST_DREAM * 99;
+        static final int MOST_SPREAD = LONGEST_WEEK * 2 * LONGEST_DREAM * MOST_MEANS;
 
         long above;
         long below = 1;
@@ -1995,12 +1964,12 @@ public final class DreamBook {
         }
 
         void tellOdds(int n, int v, int person, int season) {
-            int least = Integer.MAX_VALUE;
-            int most = Integer.MIN_VALUE;
+            int least = 0;
+            int most = 0;
             for (int d = 0; d < told.counts[DREAM]; d++) {
                 readings[d] = reader.readDream(d, person, season);
-                least = Math.min(least, readings[d]);
-                most = Math.max(most, readings[d]);
+                least = d == 0 ? readings[d] : Math.min(least, readings[d]);
+                most = d == 0 ? readings[d] : Math.max(most, readings[d]);
             }
             int spread = most - least;
             long all = 1;
@@ -2100,43 +2069,39 @@ public final class DreamBook {
         /** Does the step at a place: the place to go on at. */
         private int doStep(int at) {
             int[] row = plan.rows[at];
+            boolean done = true;
             switch (row[Plan.WORD]) {
+                case NIGHT:
+                    done = dreamNight(row[Plan.WHICH], row[Plan.FOR_WHOM], row[Plan.IN_WHICH]);
+                    break;
+                case ANY:
+                    done = told.counts[DREAM] > 0
+                        && dreamNight(drawDream(), row[Plan.FOR_WHOM], row[Plan.IN_WHICH]);
+                    break;
+                case STRIKE:
+                    done = life.strikeOut(row[Plan.WHICH]);
+                    break;
+                case PRINT:
+                    done = life.used[row[Plan.WHICH]] > 0;
+                    life.used[row[Plan.WHICH]] = 0;
+                    break;
                 case WHEN:
                     return holds(row) ? at + 1 : row[Plan.PARTNER] + 1;
                 case LOOP:
                     roundsLeft[at] = row[Plan.NUMBER];
-                    return at + 1;
-                case STOP:
+                    break;
+                default:
                     return plan.size;
-                default:
-                    if (!succeeds(row)) {
-                        tally[MISSED]++;
-                    }
-                    return at + 1;
             }
-        }
-
-        private boolean succeeds(int[] row) {
-            switch (row[Plan.WORD]) {
-                case NIGHT:
-                    return dreamNight(row[Plan.WHICH], row[Plan.FOR_WHOM], row[Plan.IN_WHICH]);
-                case ANY:
-                    return told.counts[DREAM] > 0
-                        && dreamNight(drawDream(), row[Plan.FOR_WHOM], row[Plan.IN_WHICH]);
-                case STRIKE:
-                    return life.strikeOut(row[Plan.WHICH]);
-                default:
-                    int before = life.used[row[Plan.WHICH]];
-                    life.used[row[Plan.WHICH]] = 0;
-                    return before > 0;
-            }
+            tally[MISSED] += done ? 0 : 1;
+            return at + 1;
         }
 
         private boolean holds(int[] row) {
             if (row[Plan.FOR_WHOM] == NONE) {
                 return reader.worth(row[Plan.WHICH]) == 0;
             }
-            return Integer.compare(life.sums[row[Plan.FOR_WHOM]], row[Plan.NUMBER]) == row[Plan.TEST];
+            return Integer.signum(life.sums[row[Plan.FOR_WHOM]] - row[Plan.NUMBER]) == row[Plan.TEST];
         }
 
         private int drawDream() {
