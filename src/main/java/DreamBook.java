@@ -1923,16 +1923,12 @@ public final class DreamBook {
     /** Weeks of nights by chances, and the fraction that is told. */
     private static final class Odds {
         static final int LONGEST_WEEK = 6;
-        static final int MOST_SPREAD = LONGEST_WEEK * 2 * LONGEST_DREAM * MOST_MEANS;
 
         long above;
         long below = 1;
         private final Told told;
         private final Reader reader;
         private final int[] readings = new int[MOST_DREAMS];
-        // How many ways there are to each sum above the least one, after the nights so far and one more.
-        private final long[] ways = new long[MOST_SPREAD + 1];
-        private final long[] waysOn = new long[MOST_SPREAD + 1];
 
         Odds(Told told, Reader reader) {
             this.told = told;
@@ -1964,37 +1960,35 @@ public final class DreamBook {
         }
 
         void tellOdds(int n, int v, int person, int season) {
-            int least = 0;
-            int most = 0;
-            for (int d = 0; d < told.counts[DREAM]; d++) {
-                readings[d] = reader.readDream(d, person, season);
-                least = d == 0 ? readings[d] : Math.min(least, readings[d]);
-                most = d == 0 ? readings[d] : Math.max(most, readings[d]);
-            }
-            int spread = most - least;
             long all = 1;
-            ways[0] = 1;
             for (int i = 0; i < n; i++) {
-                addNight(i * spread, spread, least);
                 all *= told.allChances();
             }
-            long good = 0;
-            for (int s = 0; s <= n * spread; s++) {
-                if (s + n * least >= v) {
-                    good += ways[s];
-                }
+            for (int d = 0; d < told.counts[DREAM]; d++) {
+                readings[d] = reader.readDream(d, person, season);
             }
-            tell(good, all);
+            tell(countWays(0, n, v), all);
         }
 
-        private void addNight(int widest, int spread, int least) {
-            Arrays.fill(waysOn, 0, widest + spread + 1, 0L);
-            for (int s = 0; s <= widest; s++) {
-                for (int d = 0; ways[s] != 0 && d < told.counts[DREAM]; d++) {
-                    waysOn[s + readings[d] - least] += ways[s] * told.chances[d];
-                }
+        /**
+         * In how many ways so many nights are dreams from number d on that come to v or more.
+         * Nights of the same dreams in another order come to the same, so that all their orders are counted at once.
+         */
+        private long countWays(int d, int nights, int v) {
+            if (nights == 0) {
+                return v <= 0 ? 1 : 0;
             }
-            System.arraycopy(waysOn, 0, ways, 0, widest + spread + 1);
+            if (d >= told.counts[DREAM]) {
+                return 0;
+            }
+            long ways = 0;
+            long places = 1;
+            for (int often = 0; often <= nights; often++) {
+                ways += places * countWays(d + 1, nights - often, v - often * readings[d]);
+                // So many places among the nights, times the chances, for one night more of this dream.
+                places = places * (nights - often) * told.chances[d] / (often + 1);
+            }
+            return ways;
         }
     }
 
