@@ -139,7 +139,7 @@ public final class DreamBookPromises {
     private static String times(int n, String text) {
         StringBuilder all = new StringBuilder();
         for (int i = 0; i < n; i++) {
-            all.append(text.replace("#", String.valueOf((char) ('a' + i))));
+            all.append(text.contains("#") ? text.replace("#", String.valueOf((char) ('a' + i))) : text);
         }
         return all.toString();
     }
@@ -330,6 +330,19 @@ public final class DreamBookPromises {
             good("rule", x.rule(0, what), 0);
         }
         good("six things", x.dream(0, 0), 6);
+        feed(SMALL);
+        x.book(SMALL.length());
+        String small = "thing a;thing b;person p;rule r of b means 4 unless a;rule q of b means 2;note q strikes q;dream d b;dream e a b chance 1;";
+        feed(small);
+        good("book behind a greater one", x.book(small.length()), 2);
+        good("in force", x.many(8), 1);
+        good("open", x.standing(1), 2);
+        good("strikes", x.strikes(0, 0) + x.strikes(0, 1), 0);
+        good("d", x.reading(0, NONE, NONE), 4);
+        good("e", x.reading(1, NONE, NONE), 0);
+        good("costs", x.dream(0, 1), 0);
+        good("chance", x.dream(0, 2), 1);
+        good("chance", x.dream(1, 2), 1);
         feed("thing a;thing b1;");
         bad("first bytes alone", x.book(12), 10);
         feed("thing a;thing b1;");
@@ -402,7 +415,8 @@ public final class DreamBookPromises {
         faulty("thing a;dream d a costs ^100;", 4);
         faulty("thing a;dream d a chance ^0;", 4);
         faulty("thing a;dream d a chance ^100;", 4);
-        // 5: notes
+        // 5: notes; others are not told already
+        faulty("thing a;rule r of a means 3;rule q of a means 3;note r strikes r;note r strikes q;note q strikes r;note r strikes ^q;", 5);
         faulty("thing a;rule r of a means 3;note r strikes r;note r strikes ^r;", 5);
     }
 
@@ -430,6 +444,51 @@ public final class DreamBookPromises {
         faulty("thing a;dream d a a a a a a ^abcdefghi;", 2);
         feed("thing abcdefgh;dream d abcdefgh;");
         good("eight letters", x.book(32), 0);
+        feed("thing a;dream d a chance 100;");
+        bad("a number to the last byte", x.book(27), 10);
+        due("fault", x.fault(0), 2);
+        due("place", x.fault(1), 27);
+        fullTapes();
+        fullBook();
+    }
+
+    private static void fullTapes() {
+        String[] signs = {"a", "1", ";", " ", "A"};
+        int[] kinds = {2, 1, 2, 0, 1};
+        for (int i = 0; i < signs.length; i++) {
+            x = new DreamBook();
+            feed(times(900, signs[i]));
+            due("900 bytes of " + signs[i], x.book(900), kinds[i] == 0 ? 0 : NONE);
+            due("fault", x.fault(0), kinds[i]);
+        }
+        x = new DreamBook();
+        feed(times(112, "thing a;").substring(0, 888) + "thing z;    ");
+        bad("one more thing than may be told", x.book(900), 10);
+        due("fault", x.fault(0), 3);
+        due("place", x.fault(1), 14);
+    }
+
+    /** As much of all as may be: no call may look behind it. */
+    private static void fullBook() {
+        fresh(times(10, "thing #;") + times(4, "person p#;") + times(3, "season s#;") + times(12, "rule r# of a means 1;")
+            + times(8, "dream d# a;"));
+        bad("mostUsed", x.mostUsed(), 8);
+        good("idle", x.idle(), 4094);
+        good("stables", x.stables(), 1);
+        good("twin", x.twin(0), 1);
+        good("bargain", x.bargain(NONE, NONE), 0);
+        good("lucky", x.lucky(), 1);
+        good("fewest", x.fewest(), 0);
+        good("stock", x.stock(1, 3, 2), 0);
+        good("whose", x.whose(7, 2, 1), 15);
+        good("when", x.when(7, 3, 1), 7);
+        good("rows", x.rows(4, 4, 3, 2), 1);
+        bad("shortest", x.shortest(5, 3, 2), 8);
+        good("week", x.week(6, 3, 2));
+        fraction(6, 1);
+        good("night", x.night(7, 3, 2), 1);
+        good("mostUsed", x.mostUsed(), 0);
+        good("idle", x.idle(), 4094);
     }
 
     private static void nightsTaken() {
@@ -868,6 +927,8 @@ public final class DreamBookPromises {
         fresh("thing a;rule r of a means 1;");
         promise = 34;
         good("without dreams all are idle", x.idle(), 1);
+        fresh("thing a;person p;season s;rule r of a means 1 for p in s;rule q of a means 1 for p;rule o of a means 1 in s;rule n of a means 1;rule m of a means 1;dream d a;");
+        good("for nobody, in none", x.idle(), 16);
     }
 
     private static final String QUARRELS = "thing a;thing b;thing c;person p;person q;season s;season t;"
@@ -1051,6 +1112,10 @@ public final class DreamBookPromises {
         good("whose", x.whose(0, 1, 2), 2);
         good("whose", x.whose(2, 0, 0), 3);
         good("whose", x.whose(2, 0, MAX), 0);
+        fresh("thing a;dream d a;");
+        good("of none", x.whose(0, NONE, 0), 0);
+        good("of none", x.when(0, NONE, 0), 0);
+        fresh(SMALL);
         bad("whose", x.whose(3, NONE, 0), 2);
         bad("whose", x.whose(0, 2, 0), 2);
         promise = 48;
@@ -1073,6 +1138,9 @@ public final class DreamBookPromises {
         bad("twin", x.twin(NONE), 2);
         fresh(SMALL);
         bad("for nobody alone y is like z", x.twin(1), 8);
+        fresh("thing a;thing b;person p;rule r of a means 2 for p;rule q of b means 2 for p;rule o of b means 1;dream x a;dream y b;");
+        bad("for p alone x is like y", x.twin(0), 8);
+        fresh(SMALL);
         promise = 50;
         good("bargain", x.bargain(NONE, NONE), 0);
         good("bargain", x.bargain(0, NONE), 1);
@@ -1213,6 +1281,12 @@ public final class DreamBookPromises {
 
     private static void liveDraws() {
         promise = 53;
+        fresh("thing a;person p;season s turns;rule r of a means 1;dream d a;");
+        nights("any for p in s;night d for p in s;print r;stop;");
+        nights("any for p;print r;night d for p;loop 1;end;");
+        good("one dream, no season", x.live(0), 4);
+        lived(0, 2, 2, 2, 0);
+        good("sum", x.person(0, 1), 2);
         fresh(SMALL);
         nights("any for p;any for p in t;any for w;");
         // s: 10613, 35742, 2251; by 8, by 6 chances: 0, 3, 5: the dreams x, z, z
