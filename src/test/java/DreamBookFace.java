@@ -142,9 +142,9 @@ public final class DreamBookFace {
             }
         }
         face.sort((a, b) -> a.getName().compareTo(b.getName()));
-        for (int run = 0; run < 300; run++) {
+        for (int run = 0; run < 1500; run++) {
             DreamBook x = new DreamBook();
-            for (int call = 0; call < 512; call++) {
+            for (int call = 0; call < 100; call++) {
                 if (random.nextInt(15) == 0) {
                     String text = TEXTS[random.nextInt(TEXTS.length)];
                     feed(x, text);

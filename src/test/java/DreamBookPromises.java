@@ -1,17 +1,9 @@
 /** The promises of the document, one after the other, on small books whose answers were worked out by hand. */
-public final class DreamBookPromises {
-    private static final int NONE = DreamBook.NONE;
-    private static final int MAX = Integer.MAX_VALUE;
-    private static final int MIN = Integer.MIN_VALUE;
-
+public final class DreamBookPromises extends Checks {
     /** Rules ra to rd are 0 to 3; what x, y, z mean is told at readings(). */
     private static final String SMALL = "thing a;thing b;thing c;person p;person w widow;season s;season t turns;"
         + "rule ra of a means 5;rule rb of b means less 3 by a;rule rc of b means 2 unless c for p;rule rd of c means 4 in t;"
         + "dream x a b costs 4 chance 2;dream y b;dream z b c chance 3;";
-
-    private static int wrong = 0;
-    private static int promise = 0;
-    private static DreamBook x;
 
     public static void main(String[] args) {
         newObject();
@@ -54,107 +46,13 @@ public final class DreamBookPromises {
         liveLimit();
         mean();
         marks();
-        System.out.println(wrong == 0 ? "all promises hold" : wrong + " answers are not as due");
-        if (wrong != 0) {
-            System.exit(1);
-        }
-    }
-
-    // -------- means
-
-    private static void due(String what, long got, long want) {
-        if (got != want) {
-            wrong++;
-            System.out.println("promise " + promise + ": " + what + " answered " + got + ", due is " + want);
-        }
-    }
-
-    /** The call answered so with STATUS 0. */
-    private static void good(String what, long got, long want) {
-        due(what, got, want);
-        due("status of " + what, x.status(), 0);
-    }
-
-    private static void good(String what, boolean got) {
-        good(what, got ? 1 : 0, 1);
-    }
-
-    /** The call answered NONE with such a STATUS. */
-    private static void bad(String what, long got, int status) {
-        due(what, got, NONE);
-        due("status of " + what, x.status(), status);
-    }
-
-    private static void bad(String what, boolean got, int status) {
-        due(what, got ? 1 : 0, 0);
-        due("status of " + what, x.status(), status);
-    }
-
-    private static void fraction(long top, long bottom) {
-        due("top", x.top(), top);
-        due("bottom", x.bottom(), bottom);
-    }
-
-    private static void feed(String text) {
-        for (int i = 0; i < text.length(); i += 20) {
-            int[] v = new int[5];
-            for (int j = 0; j < 20; j++) {
-                int c = i + j < text.length() ? text.charAt(i + j) & 255 : ' ';
-                v[j / 4] = v[j / 4] << 8 | c;
-            }
-            x.feed(v[0], v[1], v[2], v[3], v[4]);
-        }
-    }
-
-    private static void fresh(String book) {
-        x = new DreamBook();
-        feed(book);
-        if (x.book(book.length()) == NONE) {
-            due("book " + book + ", fault " + x.fault(0) + " at " + x.fault(1), 0, 1);
-        }
-    }
-
-    private static int nights(String text) {
-        feed(text);
-        return x.nights(text.length());
-    }
-
-    /** The book has such a fault where the mark ^ stands. */
-    private static void faulty(String marked, int kind) {
-        String text = marked.replace("^", "");
-        feed(text);
-        bad("book " + marked, x.book(text.length()), 10);
-        due("fault of " + marked, x.fault(0), kind);
-        due("place of " + marked, x.fault(1), marked.indexOf('^'));
-    }
-
-    private static void faultyNights(String marked, int kind) {
-        String text = marked.replace("^", "");
-        feed(text);
-        bad("nights " + marked, x.nights(text.length()), 10);
-        due("fault of " + marked, x.fault(0), kind);
-        due("place of " + marked, x.fault(1), marked.indexOf('^'));
-    }
-
-    private static String times(int n, String text) {
-        StringBuilder all = new StringBuilder();
-        for (int i = 0; i < n; i++) {
-            all.append(text.contains("#") ? text.replace("#", String.valueOf((char) ('a' + i))) : text);
-        }
-        return all.toString();
-    }
-
-    private static void row(String what, int... things) {
-        for (int k = 0; k < things.length; k++) {
-            good(what + " foundAt " + k, x.foundAt(k), things[k]);
-        }
-        bad(what + " foundAt behind", x.foundAt(things.length), 8);
+        finish("all promises hold");
     }
 
     // -------- promises
 
     private static void newObject() {
-        promise = 1;
+        about = "promise 1";
         x = new DreamBook();
         due("status", x.status(), 0);
         fraction(0, 1);
@@ -175,7 +73,7 @@ public final class DreamBookPromises {
     }
 
     private static void statusAndFractions() {
-        promise = 2;
+        about = "promise 2";
         fresh(SMALL);
         bad("turns", x.turns(9), 2);
         x.fault(0);
@@ -185,19 +83,19 @@ public final class DreamBookPromises {
         due("status stays", x.status(), 2);
         x.turns(0);
         due("status", x.status(), 0);
-        promise = 3;
+        about = "promise 3";
         good("week", x.week(1, 1, NONE));
         fraction(-2, 3);
         bad("week", x.week(0, 1, NONE), 5);
         fraction(-2, 3);
-        promise = 4;
+        about = "promise 4";
         good("atLeast", x.atLeast(1, 999, NONE, NONE));
         fraction(0, 1);
     }
 
     private static void trays() {
         x = new DreamBook();
-        promise = 5;
+        about = "promise 5";
         bad("tray", x.tray(-1, 0, 61), 1);
         bad("tray", x.tray(4, 0, -1), 1);
         bad("tray", x.tray(0, -1, 61), 1);
@@ -211,7 +109,7 @@ public final class DreamBookPromises {
         good("read", x.read(0, 59), 0);
         good("tray", x.tray(1, 0, 0));
         bad("read", x.read(1, 0), 4);
-        promise = 6;
+        about = "promise 6";
         long[][] cut = {{300, 44}, {70000, 4464}, {1L << 40 | 5, 5}, {Long.MIN_VALUE, Long.MIN_VALUE}};
         for (int sort = 0; sort < 4; sort++) {
             good("tray", x.tray(2, sort, 3));
@@ -226,20 +124,20 @@ public final class DreamBookPromises {
         bad("write", x.write(3, 9, 1), 3);
         bad("write", x.write(2, 3, 1), 4);
         bad("write", x.write(2, -1, 1), 4);
-        promise = 7;
+        about = "promise 7";
         bad("read", x.read(4, 0), 1);
         bad("read", x.read(3, 0), 3);
         bad("read", x.read(2, 3), 4);
         bad("read", x.read(2, MIN), 4);
         good("write", x.write(2, 0, -1));
         good("read -1", x.read(2, 0), -1);
-        promise = 5;
+        about = "promise 5";
         good("tray anew", x.tray(2, 1, 2));
         good("read", x.read(2, 0), 0);
     }
 
     private static void pour() {
-        promise = 8;
+        about = "promise 8";
         x = new DreamBook();
         x.tray(0, 1, 5);
         x.tray(1, 1, 3);
@@ -279,7 +177,7 @@ public final class DreamBookPromises {
     }
 
     private static void feed() {
-        promise = 9;
+        about = "promise 9";
         x = new DreamBook();
         x.turns(0);
         due("feed", x.feed(0x7468696e, 0x67206f77, 0x6c3b7468, 0x696e6720, 0x7a3b2020), 20);
@@ -297,7 +195,7 @@ public final class DreamBookPromises {
     }
 
     private static void bookTaken() {
-        promise = 10;
+        about = "promise 10";
         fresh(SMALL);
         due("four rules", x.many(3), 4);
         x.night(0, 0, NONE);
@@ -353,7 +251,7 @@ public final class DreamBookPromises {
     }
 
     private static void bookFaults() {
-        promise = 10;
+        about = "promise 10";
         x = new DreamBook();
         // 1: no token
         faulty("thing a;^A", 1);
@@ -421,7 +319,7 @@ public final class DreamBookPromises {
     }
 
     private static void bookLimits() {
-        promise = 10;
+        about = "promise 10";
         x = new DreamBook();
         String rules = times(12, "rule r# of a means 1;");
         String notes = times(12, "note ra strikes r#;");
@@ -492,7 +390,7 @@ public final class DreamBookPromises {
     }
 
     private static void nightsTaken() {
-        promise = 11;
+        about = "promise 11";
         fresh(SMALL);
         good("nights", nights("night x for p in s;any for w;strike ra;print ra;when sum p < less 3;end;when worn ra;stop;end;loop 99;end;"), 8);
         feed("stop;stop;");
@@ -516,7 +414,7 @@ public final class DreamBookPromises {
     }
 
     private static void nightsFaults() {
-        promise = 11;
+        about = "promise 11";
         fresh(SMALL);
         faultyNights("stop;^S", 1);
         faultyNights("loop ^10000;", 1);
@@ -560,7 +458,7 @@ public final class DreamBookPromises {
     }
 
     private static void fault() {
-        promise = 12;
+        about = "promise 12";
         x = new DreamBook();
         due("fault", x.fault(0), NONE);
         due("place", x.fault(1), NONE);
@@ -586,7 +484,7 @@ public final class DreamBookPromises {
     }
 
     private static void many() {
-        promise = 13;
+        about = "promise 13";
         fresh(SMALL + "note rd strikes rc;");
         int[] want = {3, 2, 2, 4, 1, 3, 6, 0, 11, 0};
         for (int what = 0; what < 10; what++) {
@@ -604,7 +502,7 @@ public final class DreamBookPromises {
     }
 
     private static void rule() {
-        promise = 14;
+        about = "promise 14";
         fresh(SMALL);
         good("thing", x.rule(1, 0), 1);
         good("means", x.rule(1, 1), -3);
@@ -635,7 +533,7 @@ public final class DreamBookPromises {
     }
 
     private static void personsAndSeasons() {
-        promise = 15;
+        about = "promise 15";
         fresh(SMALL);
         good("no widow", x.person(0, 0), 0);
         good("widow", x.person(1, 0), 1);
@@ -646,7 +544,7 @@ public final class DreamBookPromises {
         bad("nobody", x.person(NONE, 0), 2);
         bad("person", x.person(0, 2), 5);
         bad("person", x.person(0, -1), 5);
-        promise = 16;
+        about = "promise 16";
         good("turns", x.turns(0), 0);
         good("turns", x.turns(1), 1);
         bad("turns", x.turns(2), 2);
@@ -654,7 +552,7 @@ public final class DreamBookPromises {
     }
 
     private static void notesAndDreams() {
-        promise = 17;
+        about = "promise 17";
         fresh(SMALL + "note rd strikes rb;note ra strikes ra;");
         good("note", x.note(0, 0), 3);
         good("note", x.note(0, 1), 1);
@@ -663,7 +561,7 @@ public final class DreamBookPromises {
         bad("note", x.note(-1, 0), 2);
         bad("note", x.note(0, 2), 5);
         bad("note", x.note(0, -1), 5);
-        promise = 18;
+        about = "promise 18";
         int[][] want = {{2, 4, 2}, {1, 0, 1}, {2, 0, 3}};
         for (int d = 0; d < 3; d++) {
             for (int what = 0; what < 3; what++) {
@@ -674,7 +572,7 @@ public final class DreamBookPromises {
         bad("dream", x.dream(NONE, 0), 2);
         bad("dream", x.dream(0, 3), 5);
         bad("dream", x.dream(0, -1), 5);
-        promise = 19;
+        about = "promise 19";
         good("dreamAt", x.dreamAt(2, 0), 1);
         good("dreamAt", x.dreamAt(2, 1), 2);
         bad("dreamAt", x.dreamAt(2, 2), 8);
@@ -683,7 +581,7 @@ public final class DreamBookPromises {
     }
 
     private static void copyDream() {
-        promise = 20;
+        about = "promise 20";
         fresh(SMALL);
         x.tray(0, 0, 3);
         x.write(0, 2, 77);
@@ -701,7 +599,7 @@ public final class DreamBookPromises {
     }
 
     private static void standing() {
-        promise = 21;
+        about = "promise 21";
         // 0 strikes 1 strikes 2 strikes 3: by turns; 4 strikes itself and 5; 6 strikes itself, 0 strikes it; 7 and 8 each other
         fresh("thing a;" + times(9, "rule r# of a means 1;")
             + "note rc strikes rd;note rb strikes rc;note ra strikes rb;note re strikes re;note re strikes rf;"
@@ -719,10 +617,10 @@ public final class DreamBookPromises {
     }
 
     private static void stables() {
-        promise = 22;
+        about = "promise 22";
         fresh("thing a;" + times(4, "rule r# of a means 1;") + "note ra strikes rb;note rb strikes ra;note rc strikes rd;note rd strikes rc;");
         good("stables", x.stables(), 4);
-        promise = 23;
+        about = "promise 23";
         int[] want = {5, 6, 9, 10};
         for (int k = 0; k < 4; k++) {
             good("stable", x.stable(k), want[k]);
@@ -730,7 +628,7 @@ public final class DreamBookPromises {
         bad("stable", x.stable(4), 8);
         bad("stable", x.stable(-1), 8);
         bad("stable", x.stable(MAX), 8);
-        promise = 22;
+        about = "promise 22";
         fresh("thing a;" + times(3, "rule r# of a means 1;") + "note ra strikes rb;note rb strikes rc;note rc strikes ra;");
         good("stables of a ring of three", x.stables(), 0);
         bad("stable", x.stable(0), 8);
@@ -742,7 +640,7 @@ public final class DreamBookPromises {
     }
 
     private static void strikes() {
-        promise = 24;
+        about = "promise 24";
         fresh("thing a;" + times(4, "rule r# of a means 1;") + "note ra strikes rb;note ra strikes rd;note rc strikes rb;note rb strikes rb;");
         good("strikes", x.strikes(0, 0), 10);
         good("strikes", x.strikes(1, 0), 2);
@@ -754,19 +652,19 @@ public final class DreamBookPromises {
     }
 
     private static void strikeMendPrint() {
-        promise = 25;
+        about = "promise 25";
         fresh(SMALL);
         good("strike", x.strike(1));
         good("reading without it", x.reading(0, NONE, NONE), 5);
         bad("strike", x.strike(1), 9);
         bad("strike", x.strike(4), 2);
         bad("strike", x.strike(-1), 2);
-        promise = 26;
+        about = "promise 26";
         good("mend", x.mend(1));
         good("reading with it", x.reading(0, NONE, NONE), 2);
         bad("mend", x.mend(1), 9);
         bad("mend", x.mend(4), 2);
-        promise = 27;
+        about = "promise 27";
         good("print", x.print(1), 0);
         x.night(0, 0, NONE);
         x.night(0, 0, NONE);
@@ -778,7 +676,7 @@ public final class DreamBookPromises {
     }
 
     private static void readings() {
-        promise = 28;
+        about = "promise 28";
         fresh(SMALL);
         // by persons (nobody, p, w) and seasons (none, s, t)
         int[][][] want = {
@@ -808,7 +706,7 @@ public final class DreamBookPromises {
     }
 
     private static void readRow() {
-        promise = 29;
+        about = "promise 29";
         fresh(SMALL);
         x.tray(0, 3, 9);
         x.tray(1, 0, 2);
@@ -839,7 +737,7 @@ public final class DreamBookPromises {
 
     private static void ruleAtValueAt() {
         fresh(SMALL);
-        promise = 30;
+        about = "promise 30";
         good("ruleAt", x.ruleAt(0, 0, NONE, NONE), 0);
         good("ruleAt", x.ruleAt(0, 1, NONE, NONE), 1);
         good("ruleAt", x.ruleAt(1, 0, 0, NONE), 2);
@@ -850,7 +748,7 @@ public final class DreamBookPromises {
         bad("ruleAt", x.ruleAt(3, 9, 0, NONE), 2);
         bad("ruleAt", x.ruleAt(1, 9, 2, NONE), 2);
         bad("ruleAt", x.ruleAt(1, 9, 0, 2), 2);
-        promise = 31;
+        about = "promise 31";
         good("valueAt", x.valueAt(0, 0, NONE, NONE), 5);
         good("valueAt", x.valueAt(0, 1, NONE, NONE), -3);
         good("valueAt", x.valueAt(0, 1, 1, NONE), 3);
@@ -864,12 +762,12 @@ public final class DreamBookPromises {
             x.night(0, 0, NONE);
         }
         good("worn", x.valueAt(0, 0, NONE, NONE), 0);
-        promise = 30;
+        about = "promise 30";
         good("a worn one counts", x.ruleAt(0, 0, NONE, NONE), 0);
     }
 
     private static void night() {
-        promise = 32;
+        about = "promise 32";
         fresh(SMALL);
         good("night", x.night(0, 0, NONE), 2);
         good("night", x.night(0, 0, 1), 2 - (4 - 2));
@@ -901,7 +799,7 @@ public final class DreamBookPromises {
 
     private static void countingIdleMostUsed() {
         fresh(SMALL + "rule re of a means 9;");
-        promise = 33;
+        about = "promise 33";
         good("counting", x.counting(0, NONE, NONE), 3);
         good("counting", x.counting(1, NONE, NONE), 0);
         good("counting", x.counting(1, 0, NONE), 4);
@@ -909,12 +807,12 @@ public final class DreamBookPromises {
         bad("counting", x.counting(3, NONE, NONE), 2);
         bad("counting", x.counting(0, 2, NONE), 2);
         bad("counting", x.counting(0, NONE, 2), 2);
-        promise = 34;
+        about = "promise 34";
         good("idle", x.idle(), 16);
         x.strike(0);
         good("idle", x.idle(), 1);
         x.mend(0);
-        promise = 35;
+        about = "promise 35";
         bad("mostUsed", x.mostUsed(), 8);
         x.night(0, 0, NONE);
         good("of several the first", x.mostUsed(), 0);
@@ -925,7 +823,7 @@ public final class DreamBookPromises {
         x.print(0);
         good("mostUsed", x.mostUsed(), 1);
         fresh("thing a;rule r of a means 1;");
-        promise = 34;
+        about = "promise 34";
         good("without dreams all are idle", x.idle(), 1);
         fresh("thing a;person p;season s;rule r of a means 1 for p in s;rule q of a means 1 for p;rule o of a means 1 in s;rule n of a means 1;rule m of a means 1;dream d a;");
         good("for nobody, in none", x.idle(), 16);
@@ -938,7 +836,7 @@ public final class DreamBookPromises {
         + "dream d b a;";
 
     private static void quarrel() {
-        promise = 36;
+        about = "promise 36";
         fresh(QUARRELS);
         int[] against = {0x516, 0, 0, 0x506, 0, 0, 0, 0x416, 0, 0x116, 0, 0};
         for (int a = 0; a < 12; a++) {
@@ -953,7 +851,7 @@ public final class DreamBookPromises {
         bad("quarrel", x.quarrel(-1, 0), 2);
         bad("quarrel", x.quarrel(0, 12), 2);
         bad("quarrel", x.quarrel(3, 3), 5);
-        promise = 37;
+        about = "promise 37";
         good("quarrels", x.quarrels(), 17);
         x.strike(0);
         good("in force or not", x.quarrels(), 17);
@@ -962,7 +860,7 @@ public final class DreamBookPromises {
             x.night(0, 0, NONE);
         }
         good("by what is told", x.quarrel(0, 2), 1);
-        promise = 36;
+        about = "promise 36";
         fresh("thing a;thing b;rule ra of a means 1 by b;rule rb of a means less 1 unless b;rule rc of a means less 1 by a;rule rd of a means 2 by b unless b;");
         good("the other one's by", x.quarrel(0, 1), 0);
         good("by the thing itself", x.quarrel(0, 2), 1);
@@ -970,7 +868,7 @@ public final class DreamBookPromises {
     }
 
     private static void shownFoundAt() {
-        promise = 38;
+        about = "promise 38";
         fresh(QUARRELS);
         good("shown", x.shown(0, 1), 3);
         row("shown 0 1", 1, 0, 2);
@@ -987,7 +885,7 @@ public final class DreamBookPromises {
         bad("shown", x.shown(12, 12), 2);
         bad("shown", x.shown(0, 0), 5);
         bad("shown", x.shown(3, 4), 8);
-        promise = 39;
+        about = "promise 39";
         row("still the latest", 0);
         bad("foundAt", x.foundAt(-1), 8);
         x.book(0);
@@ -995,10 +893,10 @@ public final class DreamBookPromises {
     }
 
     private static void fewest() {
-        promise = 40;
+        about = "promise 40";
         fresh(QUARRELS);
         good("fewest", x.fewest(), 4);
-        promise = 41;
+        about = "promise 41";
         good("fewestSet", x.fewestSet(), 649);
         fresh("thing a;rule ra of a means less 1;rule rb of a means 1;");
         good("fewest", x.fewest(), 1);
@@ -1011,7 +909,7 @@ public final class DreamBookPromises {
     }
 
     private static void shortestRows() {
-        promise = 42;
+        about = "promise 42";
         fresh(SMALL);
         good("shortest", x.shortest(5, NONE, NONE), 1);
         row("5", 0);
@@ -1033,7 +931,7 @@ public final class DreamBookPromises {
         bad("shortest", x.shortest(1000, NONE, NONE), 5);
         bad("shortest", x.shortest(-1000, NONE, NONE), 5);
         bad("shortest", x.shortest(999, NONE, NONE), 8);
-        promise = 43;
+        about = "promise 43";
         good("rows", x.rows(1, 0, NONE, NONE), 2);
         good("rows", x.rows(2, 5, NONE, NONE), 2);
         good("rows", x.rows(2, 2, NONE, NONE), 2);
@@ -1052,7 +950,7 @@ public final class DreamBookPromises {
     }
 
     private static void lucky() {
-        promise = 44;
+        about = "promise 44";
         fresh(SMALL);
         bad("lucky", x.lucky(), 8);
         String four = "thing a;thing b;person w widow;season t turns;rule ra of b means 1# for w in t;rule rb of b means less 1# for w;"
@@ -1074,7 +972,7 @@ public final class DreamBookPromises {
     }
 
     private static void stock() {
-        promise = 45;
+        about = "promise 45";
         fresh("thing a;person p;person w widow;season t turns;rule r of a means 3;dream x a costs 5;dream y a costs 4;dream z a a costs 1;");
         bad("stockSet", x.stockSet(), 8);
         int[][] want = {{7, 5, 6}, {5, 9, 3}, {3, 4, 2}, {6, 1, 4}, {0, 0, 0}};
@@ -1092,7 +990,7 @@ public final class DreamBookPromises {
         bad("stock", x.stock(1000, NONE, 1), 2);
         bad("stock", x.stock(1000, NONE, NONE), 5);
         bad("stock", x.stock(-1000, NONE, NONE), 5);
-        promise = 46;
+        about = "promise 46";
         good("the latest", x.stockSet(), 0);
         x.night(1, 0, NONE);
         good("by what is worn", x.stock(4, NONE, NONE), 1);
@@ -1105,7 +1003,7 @@ public final class DreamBookPromises {
     }
 
     private static void whoseWhen() {
-        promise = 47;
+        about = "promise 47";
         fresh(SMALL);
         good("whose", x.whose(0, NONE, 2), 1);
         good("whose", x.whose(0, NONE, -2), 2);
@@ -1118,7 +1016,7 @@ public final class DreamBookPromises {
         fresh(SMALL);
         bad("whose", x.whose(3, NONE, 0), 2);
         bad("whose", x.whose(0, 2, 0), 2);
-        promise = 48;
+        about = "promise 48";
         good("when", x.when(0, NONE, 2), 1);
         good("when", x.when(0, 1, 2), 2);
         good("when", x.when(1, NONE, 0), 3);
@@ -1128,7 +1026,7 @@ public final class DreamBookPromises {
     }
 
     private static void twinBargain() {
-        promise = 49;
+        about = "promise 49";
         fresh(SMALL + "dream u c b;dream v b a;dream o b;");
         good("twin", x.twin(0), 4);
         good("twin", x.twin(4), 0);
@@ -1141,7 +1039,7 @@ public final class DreamBookPromises {
         fresh("thing a;thing b;person p;rule r of a means 2 for p;rule q of b means 2 for p;rule o of b means 1;dream x a;dream y b;");
         bad("for p alone x is like y", x.twin(0), 8);
         fresh(SMALL);
-        promise = 50;
+        about = "promise 50";
         good("bargain", x.bargain(NONE, NONE), 0);
         good("bargain", x.bargain(0, NONE), 1);
         good("bargain", x.bargain(NONE, 1), 1);
@@ -1158,7 +1056,7 @@ public final class DreamBookPromises {
     }
 
     private static void week() {
-        promise = 51;
+        about = "promise 51";
         fresh(SMALL);
         good("week", x.week(1, NONE, NONE));
         fraction(2, 3);
@@ -1184,7 +1082,7 @@ public final class DreamBookPromises {
     }
 
     private static void atLeast() {
-        promise = 52;
+        about = "promise 52";
         fresh(SMALL);
         good("atLeast", x.atLeast(1, 2, NONE, NONE));
         fraction(1, 3);
@@ -1226,16 +1124,16 @@ public final class DreamBookPromises {
     }
 
     private static void liveSteps() {
-        promise = 53;
+        about = "promise 53";
         fresh(SMALL);
         bad("live", x.live(-1), 5);
         bad("live", x.live(10000), 5);
         bad("live", x.live(0), 8);
-        promise = 54;
+        about = "promise 54";
         bad("lived", x.lived(5), 5);
         bad("lived", x.lived(-1), 5);
         bad("lived", x.lived(0), 8);
-        promise = 53;
+        about = "promise 53";
         nights("night x for p;night y for w in t;strike rb;strike rb;print ra;print ra;when sum p = 2;night x for p in t;end;when sum p > less 3;stop;end;stop;");
         // x: 2; y for w: 0; without rb, ra being printed, x in t by ra and rc: -7; the sum, -5, is not above -3
         good("live", x.live(7), 10);
@@ -1248,12 +1146,12 @@ public final class DreamBookPromises {
         good("live again from there", x.live(7), 9);
         good("sum", x.person(0, 1), 0);
         lived(3, 2, 1, 2, 0);
-        promise = 54;
+        about = "promise 54";
         x.night(0, 0, NONE);
         bad("live", x.live(-1), 5);
         x.book(0);
         lived(3, 2, 1, 2, 0);
-        promise = 53;
+        about = "promise 53";
         fresh(SMALL);
         nights("loop 2;when worn rb;stop;end;loop 3;night x for p;end;end;night z for p in t;");
         // loop, when, loop, three nights, when (rb is worn), stop
@@ -1280,7 +1178,7 @@ public final class DreamBookPromises {
     }
 
     private static void liveDraws() {
-        promise = 53;
+        about = "promise 53";
         fresh("thing a;person p;season s turns;rule r of a means 1;dream d a;");
         nights("any for p in s;night d for p in s;print r;stop;");
         nights("any for p;print r;night d for p;loop 1;end;");
@@ -1307,7 +1205,7 @@ public final class DreamBookPromises {
     }
 
     private static void liveLimit() {
-        promise = 53;
+        about = "promise 53";
         fresh(SMALL);
         String most = "loop 99;print ra;print ra;print ra;end;";
         String[] behind = {"", "print ra;print ra;", "print ra;print ra;print ra;", "print ra;stop;print ra;", "print ra;print ra;stop;",
@@ -1326,7 +1224,7 @@ public final class DreamBookPromises {
     }
 
     private static void mean() {
-        promise = 55;
+        about = "promise 55";
         fresh(SMALL);
         bad("mean", x.mean(0, 0, 1), 8);
         nights("any for p;any for w;");
@@ -1355,7 +1253,7 @@ public final class DreamBookPromises {
     }
 
     private static void marks() {
-        promise = 56;
+        about = "promise 56";
         fresh(SMALL);
         nights("stop;");
         x.night(0, 0, NONE);
@@ -1375,7 +1273,7 @@ public final class DreamBookPromises {
         bad("mark", x.mark(), 7);
         x.strike(0);
         feed("thi");
-        promise = 57;
+        about = "promise 57";
         good("back", x.back(), 2);
         good("not out", x.many(9), 0);
         good("dreamt", x.many(7), 1);
@@ -1396,7 +1294,7 @@ public final class DreamBookPromises {
         good("nights", x.live(0), 1);
         bad("back", x.back(), 8);
         good("sum", x.person(0, 1), 2);
-        promise = 56;
+        about = "promise 56";
         good("mark", x.mark(), 1);
     }
 }
