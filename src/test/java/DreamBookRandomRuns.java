@@ -1272,7 +1272,7 @@ public final class DreamBookRandomRuns {
         void feed(String s) {
             String padded = s;
             while (padded.length() % 20 != 0) { padded += random.nextInt(3) == 0 ? "x" : " "; }
-            for (int i = 0; i < padded.length(); i += 20) {
+            for (int i = 0; i < padded.length() && i <= 900; i += 20) {
                 int[] v = new int[5];
                 for (int j = 0; j < 20; j++) { v[j / 4] = v[j / 4] << 8 | padded.charAt(i + j) & 255; }
                 int got = x.feed(v[0], v[1], v[2], v[3], v[4]);
