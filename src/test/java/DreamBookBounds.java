@@ -217,6 +217,25 @@ public final class DreamBookBounds extends Checks {
         bad("a faulty one", book("thing a"), 10);
         good("the old one stays", x.many(7), 1);
         good("its nights, too", x.live(0), 1);
+        notesTakenInPlace();
+    }
+
+    private static void notesTakenInPlace() {
+        String two = "thing a;rule r of a means 9;rule n of a means 3;";
+        fresh(two + "note r strikes n;");
+        good("fallen", x.standing(1), 1);
+        good("book", book(two + "note n strikes r;note n strikes n;"), 2);
+        good("struck by an open one", x.standing(0), 2);
+        good("open", x.standing(1), 2);
+        good("strikes none", x.strikes(0, 0), 0);
+        good("strikes both", x.strikes(1, 0), 3);
+        good("struck by the other", x.strikes(0, 1), 2);
+        good("book", book(two), 2);
+        for (int r = 0; r < 2; r++) {
+            good("it stands", x.standing(r), 0);
+            good("strikes none", x.strikes(r, 0), 0);
+            good("struck by none", x.strikes(r, 1), 0);
+        }
     }
 
     // -------- which RULES stand
@@ -785,6 +804,15 @@ public final class DreamBookBounds extends Checks {
         fresh(those + "1;");
         good("by a", x.lucky(), 1);
         row("the first", 0);
+        x.strike(1);
+        good("not by a any more", x.lucky(), 1);
+        row("not by a", 1);
+        x.strike(0);
+        bad("by none", x.lucky(), 8);
+        fresh("thing a;person p;person w widow;season s;season t turns;rule r of a means 1;");
+        bad("not for a widow", x.lucky(), 8);
+        good("book", book("thing a;person p;season s;rule r of a means 1;"), 1);
+        good("there is no widow any more", x.lucky(), 1);
     }
 
     private static void stock() {
