@@ -874,6 +874,20 @@ public final class DreamBookBounds extends Checks {
         good("by what is worn", x.stock(2, NONE, NONE), 1);
         x.back();
         good("that found latest", x.stockSet(), 1);
+        about = "in the order of their numbers";
+        String rules = "thing a;thing b;person p;person w widow;rule r of a means 1;rule q of b means 10;";
+        for (int p = 0; p < 2; p++) {
+            int way = p == 0 ? 1 : -1;
+            fresh(rules + "dream d a a costs 1;dream e a b costs 1;");
+            good("2, then 10", x.stock(way * 12, p, NONE), 2);
+            good("both", x.stockSet(), 3);
+            good("11 alone", x.stock(way * 11, p, NONE), 1);
+            good("the second", x.stockSet(), 2);
+            fresh(rules + "dream d a b costs 1;dream e a a costs 1;");
+            good("11, then 0: 11 alone is less", x.stock(way * 11, p, NONE), 1);
+            good("the first", x.stockSet(), 1);
+            bad("not 12", x.stock(way * 12, p, NONE), 8);
+        }
     }
 
     private static void whoseAndWhen() {

@@ -114,6 +114,24 @@ public final class DreamBookFace {
         expect("no Exact", !code.contains("Exact("));
         expect("one import", code.split("\\bimport\\b", -1).length == 2 && code.contains("import java.util.Arrays;"));
         expect("signs of 1 to 127", text.chars().allMatch(c -> c >= 1 && c <= 127));
+        checkLengths(text.split("\n", -1));
+    }
+
+    /** A method's head and its last line stand as far in as each other. */
+    private static void checkLengths(String[] lines) {
+        int methods = 0;
+        for (int i = 0; i < lines.length; i++) {
+            if (lines[i].matches("( {4}| {8})[A-Za-z].*\\) \\{")) {
+                String last = lines[i].replaceAll("\\S.*", "") + "}";
+                int end = i + 1;
+                while (end < lines.length && !lines[end].equals(last)) {
+                    end++;
+                }
+                methods++;
+                expect("some sixty lines: " + lines[i].trim(), end - i < 60);
+            }
+        }
+        expect("methods were found: " + methods, methods > 150);
     }
 
     // -------- no call throws, whatever it is called with

@@ -1,7 +1,3 @@
-import java.util.ArrayList;
-import java.util.HashMap;
-import java.util.List;
-import java.util.Map;
 import java.util.function.Predicate;
 import java.util.function.Supplier;
 import java.util.function.ToLongFunction;
@@ -12,20 +8,7 @@ import java.util.function.ToLongFunction;
  * was made likewise and not asked. Where two STATUS numbers hold, the first in the order of STATUS is due, or in that
  * which the promise names.
  */
-public final class DreamBookRefusals extends Checks {
-    private static final String RICH = "thing a;thing b;thing c;person p;person w widow;season s;season t turns;"
-        + "rule ra of a means 5;rule rb of b means less 3 by a;rule rc of b means 2 unless c for p;rule rd of c means 4 in t;"
-        + "rule re of a means less 9;note rd strikes rc;note re strikes re;"
-        + "dream x a b costs 4 chance 2;dream y b;dream z b c chance 3;";
-    private static final String NEXT_BOOK = "thing o;rule n of o means 8;";
-    private static final Map<Supplier<DreamBook>, List<String>> LOOKS = new HashMap<>();
-
-    private static final Supplier<DreamBook> MADE = DreamBook::new;
-    private static final Supplier<DreamBook> ALL = DreamBookRefusals::withAll;
-    private static final Supplier<DreamBook> PLAIN = DreamBookRefusals::withoutDreams;
-    private static final Supplier<DreamBook> FULL = DreamBookRefusals::withFullTape;
-    private static final Supplier<DreamBook> FAR = DreamBookRefusals::withFarSums;
-
+public final class DreamBookRefusals extends Looks {
     public static void main(String[] args) {
         trays();
         pour();
@@ -46,151 +29,7 @@ public final class DreamBookRefusals extends Checks {
         finish("what is refused changes nothing");
     }
 
-    // -------- objects to ask
-
-    /** Something of all there is: trays, a book that was lived with, nights, a mark, a fraction, a fault, a tape. */
-    private static DreamBook withAll() {
-        DreamBook b = new DreamBook();
-        take(b, RICH);
-        takeNights(b, "night x for p;any for w in t;strike rb;when worn rc;stop;end;loop 2;any for p;end;");
-        b.live(5);
-        b.night(0, 0, NONE);
-        b.mend(1);
-        b.tray(0, 0, 3);
-        b.tray(1, 1, 1);
-        b.tray(2, 1, 9);
-        for (int k = 0; k < 3; k++) {
-            b.write(0, k, k);
-            b.write(2, k, 2 - k);
-        }
-        b.write(1, 0, -7);
-        b.write(2, 8, 3);
-        b.shown(0, 4);
-        b.stock(0, NONE, NONE);
-        b.week(2, 0, NONE);
-        b.mark();
-        b.strike(1);
-        b.print(0);
-        b.night(2, 1, 1);
-        feed(b, "stop; go;");
-        b.nights(9);
-        feed(b, NEXT_BOOK);
-        return b;
-    }
-
-    private static DreamBook withoutDreams() {
-        DreamBook b = new DreamBook();
-        take(b, "thing a;person p;season s;rule ra of a means 5;rule rb of a means less 5;");
-        feed(b, NEXT_BOOK);
-        return b;
-    }
-
-    private static DreamBook withFullTape() {
-        DreamBook b = new DreamBook();
-        take(b, "thing a;person p;rule ra of a means 5;dream d a;");
-        for (int i = 0; i < 3; i++) {
-            b.night(0, 0, NONE);
-            b.mark();
-        }
-        feed(b, stretched(NEXT_BOOK, "thing u;", MOST_BOOK));
-        return b;
-    }
-
-    /** Sums of 9,999 and -9,999. */
-    private static DreamBook withFarSums() {
-        DreamBook b = new DreamBook();
-        take(b, "thing a;thing b;person p;person w widow;rule r of a means 99;rule q of b means less 1;"
-            + "dream six a a a a a a;dream five a a a a a;dream one a;dream down b;");
-        for (int i = 0; i < 17; i++) {
-            b.night(i < 16 ? 0 : 1, 0, NONE);
-            b.print(0);
-            b.night(i < 16 ? 0 : 1, 1, NONE);
-            b.print(0);
-        }
-        feed(b, NEXT_BOOK);
-        return b;
-    }
-
-    private static void take(DreamBook b, String text) {
-        feed(b, text);
-        due("book " + text, b.book(text.length()) == NONE ? 1 : 0, 0);
-    }
-
-    private static void takeNights(DreamBook b, String text) {
-        feed(b, text);
-        due("nights " + text, b.nights(text.length()) == NONE ? 1 : 0, 0);
-    }
-
-    // -------- looking an object through; it is of no use behind that
-
-    private static List<String> look(DreamBook b) {
-        List<String> seen = new ArrayList<>();
-        seen.add("fraction " + b.top() + " by " + b.bottom());
-        seen.add("fault " + b.fault(0) + " at " + b.fault(1));
-        lookAtTrays(b, seen);
-        for (int k = 0; k < 4; k++) {
-            seen.add("found " + b.foundAt(k));
-        }
-        seen.add("stock " + b.stockSet());
-        for (int what = 0; what < 5; what++) {
-            seen.add("lived " + b.lived(what));
-        }
-        lookAtBook(b, seen);
-        seen.add("live " + b.live(3));
-        lookAtBook(b, seen);
-        int fed = b.feed(0x20202020, 0x20202020, 0x20202020, 0x20202020, 0x20202020);
-        seen.add("tape " + fed);
-        seen.add("tape's book " + b.book(fed == NONE ? MOST_BOOK : fed));
-        seen.add("tape's things " + b.many(0) + " rule " + b.rule(0, 1));
-        for (int left = b.back(); left != NONE; left = b.back()) {
-            seen.add("marks left " + left);
-            lookAtBook(b, seen);
-        }
-        return seen;
-    }
-
-    private static void lookAtTrays(DreamBook b, List<String> seen) {
-        for (int t = 0; t < 4; t++) {
-            for (int k = 0; k < 10; k++) {
-                seen.add("tray " + t + " place " + k + ": " + b.read(t, k) + " status " + b.status());
-                if (b.status() != 0) {
-                    break;
-                }
-            }
-        }
-    }
-
-    private static void lookAtBook(DreamBook b, List<String> seen) {
-        for (int what = 0; what < 10; what++) {
-            seen.add("many " + what + " " + b.many(what));
-        }
-        for (int r = 0; r < b.many(3); r++) {
-            for (int what = 0; what < 8; what++) {
-                seen.add("rule " + r + " " + what + " " + b.rule(r, what));
-            }
-        }
-        for (int p = 0; p < b.many(1); p++) {
-            seen.add("person " + b.person(p, 0) + " sum " + b.person(p, 1));
-        }
-        for (int d = 0; d < b.many(5); d++) {
-            seen.add("dream " + b.dream(d, 0) + " " + b.dream(d, 1) + " " + b.dream(d, 2) + " first " + b.dreamAt(d, 0)
-                + " reading " + b.reading(d, NONE, NONE));
-        }
-        seen.add("turns " + b.turns(0) + b.turns(1) + " notes " + b.note(0, 0) + b.note(0, 1) + b.note(1, 0));
-    }
-
-    private static void compare(String what, DreamBook asked, Supplier<DreamBook> made, Predicate<String> stays) {
-        List<String> due = LOOKS.computeIfAbsent(made, m -> look(m.get()));
-        List<String> got = look(asked);
-        for (int i = 0; i < due.size() || i < got.size(); i++) {
-            String one = i < due.size() ? due.get(i) : "nothing";
-            String other = i < got.size() ? got.get(i) : "nothing";
-            if (stays.test(one) && !one.equals(other)) {
-                due("behind " + what + " there is " + other + ", ahead of it " + one + ":", 1, 0);
-                return;
-            }
-        }
-    }
+    // -------- what is refused
 
     private static void refused(String what, int status, Supplier<DreamBook> made, ToLongFunction<DreamBook> call) {
         x = made.get();

@@ -122,6 +122,10 @@ public final class DreamBookTexts extends Checks {
         expectFault("blanks behind the last word", book("thing a" + "\n".repeat(893)), 2, MOST_BOOK);
         expectFault("one word", book("a".repeat(MOST_BOOK)), 2, 0);
         expectFault("one number", book("1".repeat(MOST_BOOK)), 1, 0);
+        for (String two : new String[] {"a;", ";a", "1;", ";1", "A;", ";A", "a1", "1a", "a ", " a", "=a", "a<"}) {
+            int first = two.charAt(0) == ' ' ? 1 : 0;
+            expectFault("as many tokens as may be: " + two, book(two.repeat(MOST_BOOK / 2)), two.charAt(first) == 'A' ? 1 : 2, first);
+        }
         feed("thing a;thing b;");
         bad("one byte more than were fed", x.book(21), 5);
         expectTaken("all that were fed", x.book(20), 0);
