@@ -924,22 +924,29 @@ public final class DreamBookRandomRuns {
             Page kept = page;
             int least = Integer.MAX_VALUE;
             for (int set = 0; set < 1 << kept.dreams.size(); set++) {
-                page = kept.copy();
-                int come = 0, costs = 0;
-                for (int d = 0; d < kept.dreams.size(); d++) {
-                    if ((set & 1 << d) != 0) {
-                        come += readDream(d, p, s);
-                        costs += kept.dreams.get(d).costs;
-                        wear(d, p, s);
-                    }
-                }
-                if (come == sum && costs < least) {
+                int costs = 0;
+                for (int d = 0; d < kept.dreams.size(); d++) { costs += (set & 1 << d) != 0 ? kept.dreams.get(d).costs : 0; }
+                if (costs < least && comeOf(set, p, s) == sum) {
                     least = costs;
                     stock = set;
                 }
             }
-            page = kept;
             return least == Integer.MAX_VALUE ? no(8) : yes(least);
+        }
+
+        /** What the dreams of a set come to one night behind the other; all stays. */
+        int comeOf(int set, int p, int s) {
+            Page kept = page;
+            page = kept.copy();
+            int come = 0;
+            for (int d = 0; d < kept.dreams.size(); d++) {
+                if ((set & 1 << d) != 0) {
+                    come += readDream(d, p, s);
+                    wear(d, p, s);
+                }
+            }
+            page = kept;
+            return come;
         }
 
         long stockSet() { return stock < 0 ? no(8) : yes(stock); }
@@ -1247,7 +1254,8 @@ public final class DreamBookRandomRuns {
                 case 33: if (y.page.things.size() < 7 || random.nextInt(9) == 0) { due("shortest", x.shortest(v, p, s), y.shortest(v, p, s)); } break;
                 case 34: if (y.page.things.size() < 7 || k < 4) { due("rows", x.rows(k, v, p, s), y.rows(k, v, p, s)); } break;
                 case 35: due("lucky", x.lucky(), y.lucky()); break;
-                case 36: due("stock", x.stock(v, p, s), y.stock(v, p, s)); break;
+                case 36: { int sum = y.who(p) && y.time(s) && random.nextBoolean() ? y.comeOf(random.nextInt(1 << y.page.dreams.size()), p, s) : v;
+                    due("stock", x.stock(sum, p, s), y.stock(sum, p, s)); due("stockSet", x.stockSet(), y.stockSet()); break; }
                 case 37: due("stockSet", x.stockSet(), y.stockSet()); break;
                 case 38: due("whose", x.whose(d, s, v), y.whose(d, s, v)); break;
                 case 39: due("when", x.when(d, p, v), y.when(d, p, v)); break;
